@@ -1,0 +1,94 @@
+/** Counts the checks of one test program, prints the wrong ones, and ends the program. */
+final class Check {
+    private final String title;
+    private int checks;
+    private int wrong;
+
+    Check(String title) {
+        this.title = title;
+    }
+
+    void same(String call, long got, long want) {
+        checks++;
+        if (got != want) {
+            tell(call + " answered " + got + ", due is " + want);
+        }
+    }
+
+    void sameDouble(String call, double got, double want) {
+        checks++;
+        if (Double.compare(got, want) != 0) {
+            tell(call + " answered " + got + ", due is " + want);
+        }
+    }
+
+    void isTrue(String what, boolean holds) {
+        checks++;
+        if (!holds) {
+            tell(what + " does not hold");
+        }
+    }
+
+    /** The call must throw just this exception, and must leave the object as it was. */
+    void refused(String call, SynodicWheels x, Class<? extends RuntimeException> want, Runnable run) {
+        checks++;
+        long before = x.digest();
+        Class<?> got = null;
+        try {
+            run.run();
+        } catch (RuntimeException e) {
+            got = e.getClass();
+        }
+        if (got != want) {
+            tell(call + " threw " + (got == null ? "nothing" : got.getName()) + ", due is " + want.getName());
+        }
+        if (x.digest() != before) {
+            tell(call + " changed the state although it threw");
+        }
+    }
+
+    void argument(String call, SynodicWheels x, Runnable run) {
+        refused(call, x, IllegalArgumentException.class, run);
+    }
+
+    void state(String call, SynodicWheels x, Runnable run) {
+        refused(call, x, IllegalStateException.class, run);
+    }
+
+    void index(String call, SynodicWheels x, Runnable run) {
+        refused(call, x, IndexOutOfBoundsException.class, run);
+    }
+
+    /** All the values of value(), in one row. */
+    void values(String when, SynodicWheels x, int... want) {
+        for (int what = 0; what < want.length; what++) {
+            same(when + ": value(" + what + ")", x.value(what), want[what]);
+        }
+    }
+
+    /** All that wheel() tells of a wheel, in one row. */
+    void wheel(String when, SynodicWheels x, int wheel, int... want) {
+        for (int what = 0; what < want.length; what++) {
+            same(when + ": wheel(" + wheel + ", " + what + ")", x.wheel(wheel, what), want[what]);
+        }
+    }
+
+    /** What market() tells of the days from today on, in one row. */
+    void markets(String when, SynodicWheels x, int... want) {
+        for (int after = 0; after < want.length; after++) {
+            same(when + ": market(" + after + ")", x.market(after), want[after]);
+        }
+    }
+
+    void end() {
+        System.out.println(title + ": " + checks + " checks, " + wrong + " wrong");
+        if (wrong != 0) {
+            System.exit(1);
+        }
+    }
+
+    private void tell(String fault) {
+        wrong++;
+        System.out.println(title + ": " + fault);
+    }
+}
