@@ -492,7 +492,6 @@ public final class SynodicWheels {
             teeth = newTeeth;
             position = newPosition;
             mark = 0;
-            printed = newPosition;
             skipNever();
         }
 

@@ -88,6 +88,23 @@ public final class AlmanacTest {
         check.same("and never again", x.errors(100), 1);
         x.pass(3);
         check.same("behind it", x.errors(100), 0);
+
+        // A look that ends on a day to which a market was put off leaves nothing to the next look.
+        SynodicWheels y = new SynodicWheels();
+        y.addWheel(12, 0);
+        y.setMarket(0, 540, 120, 3);
+        y.setDay(4, true);
+        check.same("a short look", y.errors(5), 0);
+        check.same("a look behind it", y.errors(20), 0);
+
+        // Printed on a day of which the market is put off, and held on the next one.
+        SynodicWheels z = new SynodicWheels();
+        z.addWheel(12, 6);
+        z.setMarket(0, 540, 120, 1);
+        z.setDay(6, true);
+        z.print();
+        check.markets("put off and held", z, 2, 1, 0);
+        check.same("told as it is", z.errors(12), 0);
     }
 
     private static void readsFromTheDayOfPrinting() {

@@ -92,6 +92,10 @@ public final class MeetingTest {
         check.same("byRemainders(6)", x.byRemainders(6), 27);
         x.setWheel(2, 1, 0);
         check.same("byRemainders(5)", x.byRemainders(5), -1);
+        x.addWheel(5, 0);
+        x.addWheel(7, 3);
+        check.same("a wheel behind them does not help", x.byRemainders(11), -1);
+        check.same("nor two", x.byRemainders(27), -1);
     }
 
     private static void tellsMultiples() {
@@ -130,6 +134,7 @@ public final class MeetingTest {
         check.same("the marks do not count", wheels(6, 5).comesBack(), 6);
         check.same("29640", wheels(40, 3, 57, 50, 13, 1).comesBack(), 29640);
         check.same("30030", wheels(55, 3, 42, 5, 13, 1).comesBack(), SynodicWheels.NONE);
+        check.same("five wheels", wheels(4, 0, 6, 1, 9, 2, 5, 3, 2, 0).comesBack(), 180);
         SynodicWheels x = wheels(10, 3, 4, 2);
         x.comesBack();
         check.wheel("the wheels stay", x, 0, 10, 3, 0, -1, -1, 0, 3);
@@ -145,5 +150,9 @@ public final class MeetingTest {
         SynodicWheels y = wheels(4, 0, 3, 0);
         y.setSkip(1, 0, 0, -1);
         check.same("4 and 3 with a stand", y.comesBack(), 4);
+        SynodicWheels z = wheels(24, 0, 50, 0, 25, 0);
+        z.setSkip(1, 0, 9, -1);
+        z.setSkip(2, 1, 48, -1);
+        check.same("just 30000", z.comesBack(), 30000);
     }
 }

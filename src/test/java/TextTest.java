@@ -8,7 +8,9 @@ public final class TextTest {
         findsFaults();
         findsNumbersOutOfRange();
         findsFaultsOfSkips();
+        endsWhereTheTextEnds();
         takesTheWheels();
+        leavesNothingToLaterWheels();
         keepsWhatIsNoWheel();
         changesNothingByAFaultyText();
         check.end();
@@ -154,6 +156,25 @@ public final class TextTest {
         fault("2,0;2,0;2,0;2,0@3,1-;2,0@3,1-;", 16);
     }
 
+    /** Bytes that were in the text before it was emptied do not count. */
+    private static void endsWhereTheTextEnds() {
+        String whole = "12,11;30,0@0,11+;";
+        SynodicWheels x = new SynodicWheels();
+        for (int length = whole.length(); length >= 0; length--) {
+            write(x, whole);
+            write(x, whole.substring(0, length));
+            SynodicWheels fresh = new SynodicWheels();
+            write(fresh, whole.substring(0, length));
+            check.same("parse() of the first " + length + " bytes", x.parse(), fresh.parse());
+        }
+        write(x, whole);
+        write(x, "1");
+        check.same("parse() of 1", x.parse(), -10);
+        write(x, whole);
+        write(x, "12,11");
+        check.same("parse() of 12,11", x.parse(), -15);
+    }
+
     private static void takesTheWheels() {
         SynodicWheels x = new SynodicWheels();
         x.addWheel(8, 3);
@@ -178,6 +199,17 @@ public final class TextTest {
         check.wheel("with their skips", x, 1, 29, 28, 0, 0, 11, -1, 28);
         check.same("undo()", x.undo(), 1);
         check.wheel("those of the beginning", x, 1, 8, 2, 5, 0, 7, -1, 3);
+    }
+
+    private static void leavesNothingToLaterWheels() {
+        SynodicWheels x = new SynodicWheels();
+        write(x, "7,6;5,4@0,3+;");
+        x.parse();
+        x.setWheel(1, 3, 2);
+        write(x, "9,8;");
+        check.same("parse() of one", x.parse(), 1);
+        x.addWheel(6, 2);
+        check.wheel("no mark and no skip is left", x, 1, 6, 2, 0, -1, -1, 0, 2);
     }
 
     private static void keepsWhatIsNoWheel() {
