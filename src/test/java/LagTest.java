@@ -75,57 +75,27 @@ public final class LagTest {
         check.same("bestLag(1) at a dry hour", x.bestLag(1), 0);
     }
 
-    /** By its lag a market is put off on one day, on several, or lost; all of these days count alike. */
+    /**
+     * With 12 teeth high water is at 120 times the position plus the lag, modulo 720; the hours from 540 to 659 are wet
+     * if that is up to 59 or from 420 on.
+     */
     private static void prefersFewerDays() {
         SynodicWheels x = new SynodicWheels();
         x.addWheel(12, 0);
         x.setMarket(0, 540, 120, 5);
         x.setDay(4, true);
-        // With the lag 0 the positions 4, 5, 6 are wet, with 300 the positions 1.5 to 4.5, with 360 those from 1 to 3.
-        check.same("twelve teeth", x.bestLag(12), 60 * dryLag(4));
-        check.same("ended before it is due", x.bestLag(4), 0);
-        // Wet on position 4 with the lags 0 to 0, and so only the number of wet days tells which lag is best.
+        check.same("position 4 is dry with 300", x.bestLag(12), 300);
+        check.same("no market is due so soon", x.bestLag(4), 0);
         x.setDay(5, true);
         x.setDay(6, true);
         x.setDay(7, true);
-        check.same("four teeth in a row", x.bestLag(12), 60 * fewestOf(4, 7));
-    }
-
-    private static boolean wet(int position, int lag) {
-        int water = (position * 120 + lag) % 720;
-        for (int minute = 540; minute < 660; minute++) {
-            if (Math.abs(minute - water) <= 120 || Math.abs(minute - water - 720) <= 120) {
-                return true;
-            }
-        }
-        return false;
-    }
-
-    private static int dryLag(int position) {
-        int step = 0;
-        while (wet(position, 60 * step)) {
-            step++;
-        }
-        return step;
-    }
-
-    /** Markets are due from one position to another, in one round that begins at 0. */
-    private static int fewestOf(int from, int to) {
-        int best = 0;
-        int fewest = Integer.MAX_VALUE;
-        for (int step = 0; step < 12; step++) {
-            int days = 0;
-            boolean put = false;
-            for (int p = 0; p < 12; p++) {
-                put = (put || p >= from && p <= to) && wet(p, 60 * step);
-                days += put ? 1 : 0;
-            }
-            if (days < fewest) {
-                fewest = days;
-                best = step;
-            }
-        }
-        return best;
+        // With 0 the days 4 to 6 are wet, with 60 and 120 two of them, with 180 day 4 alone, with 300 the days 7 to 9.
+        check.same("four days in a row", x.bestLag(12), 180);
+        x.setMarket(0, 540, 120, 0);
+        x.setDay(3, true);
+        x.setDay(4, true);
+        // Without patience a market is lost on day 4 with 0, on day 3 with 300 and 360, and none is lost with 420.
+        check.same("lost ones count too", x.bestLag(12), 420);
     }
 
     private static void refuses() {
