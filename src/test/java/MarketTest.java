@@ -248,24 +248,38 @@ public final class MarketTest {
         check.argument("value(14)", x, () -> x.value(14));
     }
 
-    private static void tellsMarketsAhead() {
-        SynodicWheels x = twelve(2, 0, 4, 8);
+    /** The wheel of the market runs and stands by the moon. */
+    private static SynodicWheels driven() {
+        SynodicWheels x = twelve(2);
         x.addWheel(5, 3);
         x.setMarket(1, 540, 120, 2);
         x.setDay(2, true);
         x.setSkip(1, 0, 6, 1);
-        SynodicWheels y = twelve(2);
-        y.addWheel(5, 3);
-        y.setMarket(1, 540, 120, 2);
-        y.setDay(2, true);
-        y.setSkip(1, 0, 6, 1);
-        for (int after = 0; after <= 1000; after++) {
-            int told = x.market(after);
-            int counts = y.value(9) + 100 * y.value(10) + 10000 * y.value(11);
-            y.pass(1);
-            int more = y.value(9) + 100 * y.value(10) + 10000 * y.value(11) - counts;
-            check.same("market(" + after + ")", told, more == 0 ? 0 : more == 1 ? 1 : more == 100 ? 2 : 3);
+        return x;
+    }
+
+    private static int counts(SynodicWheels x) {
+        return x.value(9) + 1000 * x.value(10) + 1000000 * x.value(11);
+    }
+
+    /** A hundred days at a time, since an object is used for 512 calls. */
+    private static void tellsMarketsAhead() {
+        for (int first = 0; first <= 1000; first += 100) {
+            SynodicWheels x = driven();
+            SynodicWheels y = driven();
+            for (int k = 0; k < first / 100; k++) {
+                y.pass(100);
+            }
+            int before = counts(y);
+            for (int after = first; after < first + 100 && after <= 1000; after++) {
+                y.pass(1);
+                int behind = counts(y);
+                int more = behind - before;
+                before = behind;
+                check.same("market(" + after + ")", x.market(after), more == 0 ? 0 : more == 1 ? 1 : more == 1000 ? 2 : 3);
+            }
         }
+        SynodicWheels x = driven();
         check.argument("market(-1)", x, () -> x.market(-1));
         check.argument("market(1001)", x, () -> x.market(1001));
     }

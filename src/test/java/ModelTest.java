@@ -4,6 +4,7 @@ import java.util.function.LongSupplier;
 public final class ModelTest {
     private static final int RUNS = 200;
     private static final int CALLS = 512;
+    private static final int TEXTS = 20000;
 
     private final Check check;
     private final int run;
@@ -183,32 +184,32 @@ public final class ModelTest {
         }
     }
 
-    /** Good texts with a fault put in here and there. */
+    /** Good texts with a fault put in here and there, each one in an object of its own. */
     private static void texts(Check check) {
-        ModelTest t = new ModelTest(check, RUNS);
-        for (int k = 0; k < 20000; k++) {
-            String text = t.goodText();
-            int faults = t.below(3);
-            for (int f = 0; f < faults && !text.isEmpty(); f++) {
-                int at = t.below(text.length());
-                String sign = "" + "0123456789,;@+- ".charAt(t.below(16));
-                int kind = t.below(3);
-                text = text.substring(0, at) + (kind == 0 ? "" : sign) + text.substring(kind == 2 ? at : at + 1);
-            }
-            t.x.clearText();
-            t.m.clearText();
-            for (int i = 0; i < text.length() && i < 90; i++) {
-                t.x.append(text.charAt(i));
-                t.m.append(text.charAt(i));
-            }
-            t.compare("parse() of " + text, t.x::parse, t.m::parse);
-            for (int w = 0; w < t.m.value(1); w++) {
-                for (int what = 0; what <= 6; what++) {
-                    int wheel = w;
-                    int of = what;
-                    t.compare("wheel(" + w + ", " + what + ") of " + text,
-                        () -> t.x.wheel(wheel, of), () -> t.m.wheel(wheel, of));
-                }
+        for (int k = 0; k < TEXTS; k++) {
+            new ModelTest(check, RUNS + k).readText();
+        }
+    }
+
+    private void readText() {
+        String text = goodText();
+        int faults = below(3);
+        for (int f = 0; f < faults && !text.isEmpty(); f++) {
+            int at = below(text.length());
+            String sign = "" + "0123456789,;@+- ".charAt(below(16));
+            int kind = below(3);
+            text = text.substring(0, at) + (kind == 0 ? "" : sign) + text.substring(kind == 2 ? at : at + 1);
+        }
+        for (int i = 0; i < text.length() && i < 90; i++) {
+            x.append(text.charAt(i));
+            m.append(text.charAt(i));
+        }
+        compare("parse() of " + text, x::parse, m::parse);
+        for (int w = 0; w < m.value(1); w++) {
+            for (int what = 0; what <= 6; what++) {
+                int wheel = w;
+                int of = what;
+                compare("wheel(" + w + ", " + what + ") of " + text, () -> x.wheel(wheel, of), () -> m.wheel(wheel, of));
             }
         }
     }

@@ -159,14 +159,15 @@ public final class TextTest {
     /** Bytes that were in the text before it was emptied do not count. */
     private static void endsWhereTheTextEnds() {
         String whole = "12,11;30,0@0,11+;";
-        SynodicWheels x = new SynodicWheels();
         for (int length = whole.length(); length >= 0; length--) {
+            SynodicWheels x = new SynodicWheels();
             write(x, whole);
             write(x, whole.substring(0, length));
             SynodicWheels fresh = new SynodicWheels();
             write(fresh, whole.substring(0, length));
             check.same("parse() of the first " + length + " bytes", x.parse(), fresh.parse());
         }
+        SynodicWheels x = new SynodicWheels();
         write(x, whole);
         write(x, "1");
         check.same("parse() of 1", x.parse(), -10);
