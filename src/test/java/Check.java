@@ -4,14 +4,30 @@ import java.util.function.Supplier;
 
 /** Counts the checks of one test program, prints the wrong ones, and ends the program. */
 final class Check {
+    private static final long MOST_MILLISECONDS = 5 * 60 * 1000;
+
     private final String title;
     private Document document;
-    private String about = "";
+    private volatile String about = "";
     private int checks;
     private int wrong;
 
     Check(String title) {
         this.title = title;
+        Thread watch = new Thread(this::endAfterMinutes);
+        watch.setDaemon(true);
+        watch.start();
+    }
+
+    /** A call that does not end is a wrong one as well. */
+    private void endAfterMinutes() {
+        try {
+            Thread.sleep(MOST_MILLISECONDS);
+        } catch (InterruptedException e) {
+            return;
+        }
+        System.out.println(title + ": " + about + "a call does not end");
+        Runtime.getRuntime().halt(1);
     }
 
     /** The checks behind this are about the sentence of the document that begins with these words. */
@@ -91,9 +107,13 @@ final class Check {
         for (int inside : new int[] {lowest, highest}) {
             taken(what + " " + inside, () -> call.accept(house.get(), inside));
         }
+        int before = wrong;
         for (int outside : new int[] {lowest - 1, highest + 1, Integer.MIN_VALUE, Integer.MAX_VALUE}) {
             SynodicWheels x = house.get();
-            refused(what + " " + outside, x, otherwise, () -> call.accept(x, outside));
+            // A farther one that is taken too could keep the test for minutes.
+            if (wrong == before) {
+                refused(what + " " + outside, x, otherwise, () -> call.accept(x, outside));
+            }
         }
     }
 

@@ -103,6 +103,8 @@ final class DayBoundaries {
         check.same("a common part that fits", Houses.wheels(6, 4, 4, 2).byRemainders(3), 2);
         check.same("the last one does not fit", Houses.wheels(7, 0, 5, 0, 3, 0, 2, 0, 60, 59).byRemainders(31), -1);
         check.same("the first one does not fit", Houses.wheels(60, 59, 7, 0, 5, 0, 3, 0, 2, 0).byRemainders(31), -1);
+        check.same("those behind do not help", Houses.wheels(6, 0, 4, 1, 5, 0, 7, 3).byRemainders(15), -1);
+        check.same("nor does one of them", Houses.wheels(6, 0, 4, 1, 5, 0, 7, 3).byRemainders(7), -1);
         check.same("without the one that does not fit", Houses.wheels(60, 59, 7, 0, 5, 0, 3, 0, 2, 0).byRemainders(30), 0);
     }
 

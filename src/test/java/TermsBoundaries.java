@@ -401,6 +401,10 @@ final class TermsBoundaries {
         x.setDay(18, true);
         check.same("another market", x.errors(1000), 0);
         check.isTrue("there are markets", x.nextMarket() >= 0);
+        // The market's only minute is the last one under water, or the first one behind it.
+        check.same("the last wet minute", Houses.everyDay(180, 300, 1, 0).errors(1000), 0);
+        check.same("the first dry minute", Houses.everyDay(179, 300, 1, 0).errors(1000), 0);
+        check.same("the last dry minute", Houses.everyDay(421, 300, 1, 0).errors(1000), 0);
     }
 
     private void almanacFromItsFirstDay() {

@@ -268,15 +268,19 @@ final class TextBoundaries {
 
     private void clearText() {
         check.sentence("Promise 24", "Empties the text.");
-        SynodicWheels x = withText("2,0;3,0;");
+        SynodicWheels x = withText("22,0;33,11;");
+        check.same("parse() of two", x.parse(), 2);
         x.clearText();
         check.same("parse() of the empty text", x.parse(), 0);
-        Houses.write(x, "5,4;");
+        x.append('6');
+        check.same("nothing of it is left behind 6", x.parse(), -11);
+        Houses.write(x, "0,1");
+        check.same("nothing of it is left behind 60,1", x.parse(), -14);
+        x.append(';');
         check.same("parse() of another text", x.parse(), 1);
         x.clearText();
-        x.append('6');
-        check.same("nothing of it is left", x.parse(), -11);
         check.sentence("Promise 24", "Returns the length that it had.");
+        x.append('6');
         check.same("1 byte", x.clearText(), 1);
         check.same("no byte", x.clearText(), 0);
         check.same("90 bytes", full().clearText(), MOST_BYTES);
@@ -288,6 +292,9 @@ final class TextBoundaries {
     private void parse() {
         check.sentence("Promise 25", "Makes the wheels those of the text, with marks of 0, moon and market wheel 0");
         SynodicWheels x = Houses.rich();
+        x.setSkip(2, 1, 0, 1);
+        x.setWheel(0, 3, 2);
+        x.setWheel(1, 3, 4);
         x.setMarket(4, Houses.WET, 600, 5);
         x.setDay(0, true);
         x.setDay(1, true);
@@ -306,6 +313,10 @@ final class TextBoundaries {
         check.index("the third is gone", x, () -> x.wheel(2, 0));
         x.addWheel(7, 3);
         check.wheel("a new third", x, 2, 7, 3, 0, -1, -1, 0, 3);
+        x.clearText();
+        Houses.write(x, "5,1;6,2;");
+        check.same("parse() without a skip", x.parse(), 2);
+        check.wheel("the second without its skip", x, 1, 6, 2, 0, -1, -1, 0, 2);
     }
 
     private void parseKeeps() {

@@ -53,6 +53,13 @@ final class WheelBoundaries {
         check.same("the wheels", x.value(1), 2);
         check.wheel("the one that was there", x, 0, 9, 8, 0, NONE, NONE, 0, 8);
         check.wheel("the one that is new", x, 1, 5, 4, 0, NONE, NONE, 0, 4);
+        x.setSkip(1, 0, 8, -1);
+        x.setWheel(1, 3, 2);
+        for (int k = 0; k < 3; k++) {
+            x.undo();
+        }
+        x.addWheel(6, 5);
+        check.wheel("in place of one that is undone", x, 1, 6, 5, 0, NONE, NONE, 0, 5);
         check.sentence("Promise 2", "Undoable.");
         check.undone("addWheel(60, 59)", WheelBoundaries::fourOfRich, y -> y.addWheel(60, 59));
         check.undone("addWheel(2, 0)", SynodicWheels::new, y -> y.addWheel(2, 0));
