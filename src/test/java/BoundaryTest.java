@@ -10,6 +10,7 @@ public final class BoundaryTest {
         new DayBoundaries(check).run();
         new TextBoundaries(check).run();
         new StateBoundaries(check).run();
+        check.leavesNoSentenceOf("What it is");
         check.leavesNoSentenceOf("Terms");
         for (int promise = 1; promise <= LAST_PROMISE; promise++) {
             check.leavesNoSentenceOf("Promise " + promise);

@@ -10,6 +10,8 @@ final class TermsBoundaries {
     }
 
     void run() {
+        divisionAndModulo();
+        fiveHundredAndTwelveCalls();
         atMostFiveWheels();
         teethPositionAndMark();
         noSkipOrOne();
@@ -40,6 +42,43 @@ final class TermsBoundaries {
         printedOnDayZero();
         wheelsThatComeLater();
         none();
+    }
+
+    private void divisionAndModulo() {
+        check.sentence("What it is", "Wheels of days");
+        for (int teeth = 2; teeth <= 60; teeth++) {
+            SynodicWheels x = Houses.wheels(teeth, 0);
+            for (int position = 0; position < teeth; position++) {
+                // The highest whole minute that is not behind position * 1440 / teeth.
+                int minute = 0;
+                while ((minute + 1) * teeth <= position * 1440) {
+                    minute++;
+                }
+                int due = minute < 720 ? minute : minute - 720;
+                check.same("tooth " + position + " of " + teeth, x.highWater(position), due);
+            }
+            x.pass(teeth - 1);
+            x.addWheel(teeth, 0);
+            check.same("0 minus days modulo " + teeth, x.wheel(1, 6), 0);
+            x.setWheel(0, teeth - 1, 0);
+            check.same("days until the tooth 0 of " + teeth, x.byRemainders(1), 1);
+        }
+    }
+
+    private void fiveHundredAndTwelveCalls() {
+        check.sentence("What it is", "An object is used for at most 512 calls after it has been made");
+        SynodicWheels x = new SynodicWheels();
+        for (int call = 1; call < 512; call++) {
+            x.pass(1);
+        }
+        check.same("value(0), the call 512", x.value(0), 511);
+        SynodicWheels y = new SynodicWheels();
+        y.addWheel(9, 8);
+        for (int call = 2; call <= 510; call++) {
+            y.setWheel(0, call % 9, call % 9);
+        }
+        check.same("undo(), the call 511", y.undo(), 3);
+        check.same("wheel(0, 1), the call 512", y.wheel(0, 1), 509 % 9);
     }
 
     private void atMostFiveWheels() {
