@@ -286,9 +286,24 @@ final class DayBoundaries {
         SynodicWheels z = Houses.steadyMoon(Houses.WET, 3, 0);
         z.pass(1);
         check.same("one that was put off to today", z.bestLag(1), 120);
+        check.same("one day of 200 that is dry", slowMoon().bestLag(200), 60);
         check.range("days", 1, 200, ARGUMENT, () -> Houses.steadyMoon(Houses.WET, 0, 0), (w, days) -> w.bestLag(days));
         check.sentence("Promise 21", "Throws `IllegalArgumentException` if days is out of range");
         check.range("days without wheels", 1, 200, ARGUMENT, SynodicWheels::new, (w, days) -> w.bestLag(days));
+    }
+
+    /** The moon moves on one day of four, and a market due each day is held at no other high water than 60. */
+    private static SynodicWheels slowMoon() {
+        SynodicWheels x = Houses.wheels(4, 0, 3, 0, 2, 0, 59, 0);
+        x.setSkip(1, 0, 0, -1);
+        x.setSkip(2, 1, 0, -1);
+        x.setSkip(3, 2, 0, -1);
+        x.setMoon(3, 0);
+        x.setMarket(0, 181, 479, 0);
+        for (int tooth = 0; tooth < 4; tooth++) {
+            x.setDay(tooth, true);
+        }
+        return x;
     }
 
     private void kept() {
